@@ -3,7 +3,7 @@ import java.util.Random;
 /** All promises: runs of calls by chance, each answer compared with the Model's. */
 public final class ModelTest {
     private static final Check CHECK = new Check("ModelTest");
-    private static final int RUNS = 1500;
+    private static final int RUNS = 400;
     private static final int CALLS = 400;
 
     private final Random random;
@@ -73,6 +73,7 @@ public final class ModelTest {
         int what = upTo(2);
         int v = upTo(what == 0 ? 6 : 10);
         int b = ".#lw;x".charAt(random.nextInt(6));
+        int anyByte = random.nextInt(3) == 0 ? upTo(256) : -1;
         switch (number) {
             case 0: CHECK.due(call, x.type(b), model.type(b)); break;
             case 1: CHECK.due(call, x.undo(), model.undo()); break;
@@ -83,19 +84,12 @@ public final class ModelTest {
                 }
                 break;
             case 3: CHECK.due(call, x.fault(), model.fault()); break;
-            case 4: CHECK.due(call, x.type(upToByte()), model.type(lastByte)); break;
+            case 4: CHECK.due(call, x.type(anyByte), model.type(anyByte)); break;
             default: CHECK.due(call, x.set(what, v), model.set(what, v)); break;
         }
         if (model.fault() != -1 && random.nextInt(2) == 0) {
             CHECK.due(call + " undo", x.undo(), model.undo());
         }
-    }
-
-    private int lastByte;
-
-    private int upToByte() {
-        lastByte = random.nextInt(3) == 0 ? upTo(256) : -1;
-        return lastByte;
     }
 
     private void falling(String call, int number) {
@@ -104,6 +98,7 @@ public final class ModelTest {
         int cell = cell();
         int step = upTo(random.nextBoolean() ? 100 : 10);
         int what = upTo(3);
+        int counted = upTo(9);
         switch (number) {
             case 0: case 1: case 2: CHECK.due(call, x.thing(cell, step), model.thing(cell, step)); break;
             case 3: CHECK.due(call, x.back(), model.back()); break;
@@ -111,16 +106,9 @@ public final class ModelTest {
             case 8: case 9: case 10: case 11: CHECK.due(call, x.rests(a, what), model.rests(a, what)); break;
             case 12: case 13: case 14: CHECK.due(call, x.longest(), model.longest()); break;
             case 15: case 16: case 17: CHECK.due(call, x.meet(a, b), model.meet(a, b)); break;
-            case 18: case 19: case 20: CHECK.due(call, x.count(upTo9(9)), model.count(last)); break;
+            case 18: case 19: case 20: CHECK.due(call, x.count(counted), model.count(counted)); break;
             default: CHECK.due(call, x.cell(cell, what), model.cell(cell, what)); break;
         }
-    }
-
-    private int last;
-
-    private int upTo9(int end) {
-        last = upTo(end);
-        return last;
     }
 
     private void going(String call, int number) {
@@ -177,6 +165,7 @@ public final class ModelTest {
         int i = upTo(6);
         int j = upTo(6);
         int n = upTo(4);
+        int cell = cell();
         int v = random.nextBoolean() ? random.nextInt(40) : random.nextInt();
         switch (number) {
             case 0: case 1: case 2: case 3: CHECK.due(call, x.sheet(s, form, size), model.sheet(s, form, size)); break;
@@ -184,14 +173,9 @@ public final class ModelTest {
             case 5: case 6: case 7: case 8: CHECK.due(call, x.put(s, form, i, v), model.put(s, form, i, v)); break;
             case 9: case 10: case 11: case 12: CHECK.due(call, x.get(s, form, i), model.get(s, form, i)); break;
             case 13: case 14: case 15: CHECK.due(call, x.copy(s, i, t, j, n), model.copy(s, i, t, j, n)); break;
-            case 16: case 17: CHECK.due(call, x.write(cellNow(), s), model.write(last, s)); break;
+            case 16: case 17: CHECK.due(call, x.write(cell, s), model.write(cell, s)); break;
             case 18: CHECK.due(call, x.read(s), model.read(s)); break;
             default: CHECK.due(call, x.count(8), model.count(8)); break;
         }
-    }
-
-    private int cellNow() {
-        last = cell();
-        return last;
     }
 }
