@@ -588,7 +588,7 @@ public final class MineUpside {
     }
 
     private static boolean has(long set, int cell) {
-        return cell >= 0 && cell < MOST_CELLS && (set >>> cell & 1L) != 0L;
+        return cell >= 0 && cell < MOST_CELLS && ((set >>> cell) & 1L) != 0L;
     }
 
     /** How many CELLS a set has (i = NONE), or its i-th; NONE. */

@@ -5,6 +5,7 @@ public final class DigestTest {
     public static void main(String[] args) {
         ofNothing();
         ofAMine();
+        ofAColumn();
         noFindings();
         CHECK.end();
     }
@@ -47,6 +48,23 @@ public final class DigestTest {
                 // flood of CELL 3, above and below, kicks of SEED 7 whose LOTS are 0 2 2 0 2 1 0 2 2.
                 0, 1, 1);
         CHECK.due("digest", x.digest(), want);
+    }
+
+    /** One CELL in each of five ROWS, all falls DOWN: a deep fall, a spring over CELL 3. */
+    private static void ofAColumn() {
+        MineUpside x = Check.mine(".;w;.;.;.");
+        x.set(0, 0);
+        long want = digestOf(
+                5, 5, 9, 0, 0, 1, 4, 1, -1,
+                1, 0, 0, 5, 0, 0, -1, 0, -1,
+                3, 0, 0, 4, 1, -1, 1, 0, -1,
+                1, 0, 0, 3, 1, -1, 1, 1, 0,
+                1, 0, 0, 2, 1, -1, 1, 1, 1,
+                1, 0, 1, 1, 1, -1, 1, 3, 2,
+                // No THINGS: meet is BAD. CELL 2 keeps CELL 3 dry.
+                -1, -2, 1, 1, 2, 63, 2, 2, 0,
+                5, 16, 4);
+        CHECK.due("digest of a column", x.digest(), want);
     }
 
     private static void noFindings() {

@@ -83,6 +83,8 @@ public final class FallsTest {
         CHECK.due("beside it", x.meet(0, 3), MineUpside.NONE);
         CHECK.due("as it comes", x.meet(0, 4), 98);
         CHECK.due("no STEP is behind 99", x.meet(0, 5), MineUpside.NONE);
+        x.thing(1, 0);
+        CHECK.due("at once", x.meet(3, 6), 0);
         CHECK.due("one twice", x.meet(1, 1), MineUpside.BAD);
     }
 

@@ -159,6 +159,10 @@ public final class MineTest {
         CHECK.due("back", x.back(), 7);
         CHECK.due("the last is gone", x.at(7, 0), MineUpside.BAD);
         CHECK.due("thing", x.thing(0, 0), 8);
+        for (int left = 7; left >= 0; left--) {
+            CHECK.due("back", x.back(), left);
+        }
+        CHECK.due("back of none", x.back(), MineUpside.NOT);
     }
 
     private static void reading() {
@@ -170,6 +174,11 @@ public final class MineTest {
         CHECK.due("FINDING", x.count(8), 1);
         x.sheet(0, 2, 0);
         CHECK.due("read of no items", x.read(0), 0);
+        x.sheet(0, 0, 1);
+        CHECK.due("read of half a one", x.read(0), 0);
+        x.sheet(0, 0, 2);
+        CHECK.due("read of just one", x.read(0), 1);
+        CHECK.due("back", x.back(), 0);
         x.sheet(0, 0, 5);
         int[] items = {3, 1, 34, 99, 7};
         for (int i = 0; i < items.length; i++) {

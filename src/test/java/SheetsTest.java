@@ -33,9 +33,12 @@ public final class SheetsTest {
             CHECK.due("sheet", x.sheet(s, 2, 48), 48);
         }
         CHECK.due("sheet of none", x.sheet(0, 0, 0), 0);
+        x.put(1, 2, 0, 7);
         x.put(1, 2, 47, 7);
+        CHECK.due("put", x.get(1, 2, 0), 7);
         CHECK.due("put", x.get(1, 2, 47), 7);
         CHECK.due("a new one", x.sheet(1, 2, 48), 48);
+        CHECK.due("is 0", x.get(1, 2, 0), 0);
         CHECK.due("is 0", x.get(1, 2, 47), 0);
     }
 

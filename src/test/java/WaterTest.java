@@ -69,6 +69,15 @@ public final class WaterTest {
         plugOf(two, 2, 2, 1, 3);
         MineUpside far = Check.mine("w.....w");
         plugOf(far, 3, 2, 1, 4);
+        MineUpside first = Check.mine(".w;.#");
+        first.set(0, 0);
+        plugOf(first, 2, 1, 0, -1);
+        MineUpside both = Check.mine(".w.;.#.;...");
+        both.set(0, 0);
+        plugOf(both, 7, 2, 0, 2);
+        MineUpside adjoining = Check.mine("ww;..;..");
+        adjoining.set(0, 0);
+        plugOf(adjoining, 4, 2, 2, 3);
         // A plug below makes the water go to the sides.
         MineUpside below = Check.mine(".w.;...;...");
         below.set(0, 0);

@@ -22,6 +22,7 @@ public final class WaysTest {
         CHECK.due("way from rock", x.way(3, 0), MineUpside.NONE);
         CHECK.due("way from rock to itself", x.way(3, 3), MineUpside.NONE);
         CHECK.due("next", x.next(0, 2), 1);
+        CHECK.due("next, not the least beside it", x.next(1, 2), 2);
         CHECK.due("next of itself", x.next(0, 0), MineUpside.NONE);
         CHECK.due("next without WAY", x.next(0, 4), MineUpside.NONE);
         CHECK.due("reach", x.reach(0), 3);
@@ -47,6 +48,10 @@ public final class WaysTest {
         none.set(0, 0);
         CHECK.due("no ladder: not up", none.way(2, 1), MineUpside.NONE);
         CHECK.due("reach of the floor", none.reach(2), 1);
+        MineUpside rock = Check.mine("..;#.;..");
+        rock.set(0, 0);
+        CHECK.due("not down into rock", rock.way(0, 2), MineUpside.NONE);
+        CHECK.due("not up into rock", rock.way(4, 2), MineUpside.NONE);
     }
 
     private static void turning() {
