@@ -121,6 +121,19 @@ public final class DigestTest {
         }
     }
 
+    @Promise(number = 37, says = "race(0, 1, 2) (as it is told)")
+    static void raceIsWonByEither(Check check) {
+        MineUpside first = Check.mine("..;..", 0);
+        check.due("race(0, 1, 2)", first.race(0, 1, 2), 0);
+        check.due("digest()", first.digest(), composed(first));
+        MineUpside second = Check.mine("...");
+        check.due("race(0, 1, 2)", second.race(0, 1, 2), 1);
+        check.due("digest()", second.digest(), composed(second));
+        MineUpside both = Check.mine(".;.;#", 0);
+        check.due("race(0, 1, 2)", both.race(0, 1, 2), NONE);
+        check.due("digest()", both.digest(), composed(both));
+    }
+
     @Promise(number = 37, says = "flood(5, 3), above, below (as it is told)")
     static void floodIsBadOfTenSprings(Check check) {
         MineUpside nine = Check.mine("wwwww;wwww.");
@@ -150,10 +163,13 @@ public final class DigestTest {
 
     @Promise(number = 37, says = "of THINGS at(it, 5), rests() 0, 1; longest(), meet(0, 1)")
     static void ofThingsFromEachStepOn(Check check) {
-        MineUpside x = Check.mine(".;.;.;.;.", 0);
-        for (int step : new int[] {5, 4, 3, 6, 0, 99, 2, 1}) {
-            x.thing(0, step);
-            check.due("digest()", x.digest(), composed(x));
+        int[] steps = {5, 4, 3, 6, 0, 99, 2, 1};
+        for (int things = 1; things <= 8; things++) {
+            MineUpside x = Check.mine(".;.;.;.;.", 0);
+            for (int i = 0; i < things; i++) {
+                x.thing(0, steps[i]);
+            }
+            check.due("digest() of " + things, x.digest(), composed(x));
         }
     }
 

@@ -131,6 +131,23 @@ public final class MineTest {
     }
 
     @Promise(number = 3, says = "THE MINE is empty")
+    static void aMineOfAnotherWidthComesBehindIt(Check check) {
+        String[] texts = {"lll;lll;lll", "wwwww", "..;..;..;..", "#######;#######;#######;#######;#######"};
+        for (String text : texts) {
+            MineUpside x = Check.mine(text);
+            check.due("wipe()", x.wipe(), text.length());
+            Check.type(x, ".....w.;#######");
+            x.set(0, 0);
+            for (int cell = 0; cell < 7; cell++) {
+                check.due("behind " + text + ": way(0, " + cell + ")", x.way(0, cell), cell);
+                check.due("behind " + text + ": way(" + cell + ", 0)", x.way(cell, 0), cell);
+                check.due("behind " + text + ": wet(" + cell + ")", x.wet(cell), 1);
+                check.due("behind " + text + ": cell(" + cell + ", 0)", x.cell(cell, 0), cell == 5 ? 3 : 1);
+            }
+        }
+    }
+
+    @Promise(number = 3, says = "THE MINE is empty")
     static void aFaultIsWiped(Check check) {
         MineUpside x = Check.mine("..;x");
         check.due("wipe()", x.wipe(), 4);
@@ -167,6 +184,24 @@ public final class MineTest {
         check.due("cell(0, 0)", x.cell(0, 0), 3);
         check.due("undo()", x.undo(), 0);
         check.due("CELLS", x.count(0), 0);
+    }
+
+    @Promise(number = 4, says = "The last byte is undone: how many are left")
+    static void nothingIsLeftOfACellThatIsUndone(Check check) {
+        String kinds = "#.lw";
+        for (int a = 0; a < 4; a++) {
+            for (int b = 0; b < 4; b++) {
+                MineUpside x = Check.mine(".;" + kinds.charAt(a), 0);
+                x.undo();
+                x.type(kinds.charAt(b));
+                check.due("cell(1, 0)", x.cell(1, 0), b);
+                check.due("cell(0, 2)", x.cell(0, 2), b == 0 ? 1 : 0);
+                check.due("cell(1, 2)", x.cell(1, 2), b == 0 ? 0 : 1);
+                check.due("way(1, 0)", x.way(1, 0), b == 2 ? 1 : NONE);
+                check.due("springs", x.count(5), b == 3 ? 1 : 0);
+                check.due("wet(1)", x.wet(1), b == 3 ? 1 : 0);
+            }
+        }
     }
 
     @Promise(number = 4, says = "The last byte is undone: how many are left")

@@ -123,12 +123,16 @@ public final class WaterTest {
         plugOf(check, Check.mine("w.."), 2, 1, 1, NONE);
         plugOf(check, Check.mine("..w"), 0, 1, 1, NONE);
         plugOf(check, Check.mine("w;.;.", 0), 2, 1, 1, NONE);
+        plugOf(check, Check.mine(".w;.#", 0), 2, 1, 0, NONE);
+        plugOf(check, Check.mine("##w####;##.####;w......", 0), 20, 1, 16, NONE);
     }
 
     @Promise(number = 20, says = "the fewest CELLS (0 to 2)")
     static void twoPlugsAreNeeded(Check check) {
         plugOf(check, Check.mine("w.l.w"), 2, 2, 1, 3);
         plugOf(check, Check.mine(".w.;.#.;...", 0), 7, 2, 0, 2);
+        plugOf(check, Check.mine("ww;..;..", 0), 4, 2, 2, 3);
+        plugOf(check, Check.mine("#######;#######;#######;#######;w.....w"), 31, 2, 29, 32);
     }
 
     @Promise(number = 20, says = "the fewest CELLS (0 to 2)")

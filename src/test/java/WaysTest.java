@@ -89,6 +89,16 @@ public final class WaysTest {
         check.due("back over it", bare.way(1, 0), NONE);
     }
 
+    @Promise(number = 15, says = "or, from a ladder, or into one, into the CELL over or under it")
+    static void aManUsesAShaft(Check check) {
+        // All falls DOWN: a ladder from CELL 1 to 7; 9 to 11 is the floor.
+        MineUpside x = Check.mine(".l.;.l.;.l.;...", 0);
+        check.due("up, from below into it", x.way(10, 1), 3);
+        check.due("down, out of it", x.way(1, 10), 3);
+        check.due("off the ladder he falls", x.way(1, 9), 4);
+        check.due("out of the air, down, and up again", x.way(0, 1), 7);
+    }
+
     @Promise(number = 15, says = "into the CELL over or under it, if that is no rock")
     static void aManDoesNotClimbIntoRock(Check check) {
         MineUpside x = Check.mine("..;#.;l.;#.;..", 0);
